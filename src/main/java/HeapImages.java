@@ -631,7 +631,6 @@ public final class HeapImages {
         private int end;
         private int objects;
         private int toldObjects;
-        private int lastHead;
 
         Reader(Bytes input) {
             this.input = input;
@@ -642,15 +641,16 @@ public final class HeapImages {
             place = 0;
             end = NOWHERE;
             toldObjects = 0;
-            lastHead = 0;
             readSign();
             readObjectCount();
             for (int i = 0; i < ROOTS && goesOn(); i++) {
                 heap.roots[i] = nextValue(true, true);
             }
             for (int k = 0; k < objects && goesOn(); k++) {
-                readHead(heap, k);
-                readSlots(heap);
+                int head = readHead(heap, k);
+                if (head >= 0) {
+                    readSlots(heap, head);
+                }
             }
             readSum();
             if (place < input.size) {
@@ -721,7 +721,8 @@ public final class HeapImages {
             objects = (int) Math.min(count, WORDS);
         }
 
-        private void readHead(Heap heap, int k) {
+        /** Appends object k, its slots yet to be read: its head, or -1 if reading ends. */
+        private int readHead(Heap heap, int k) {
             int start = place;
             long kind = nextCount();
             if (kind < CELLS || kind > LINK || k >= toldObjects) {
@@ -735,16 +736,14 @@ public final class HeapImages {
             if (goesOn() && !heap.hasRoomFor((int) slots)) {
                 endAt(start);
             }
-            if (goesOn()) {
-                lastHead = heap.append((int) kind, (int) slots);
-            }
+            return goesOn() ? heap.append((int) kind, (int) slots) : -1;
         }
 
-        private void readSlots(Heap heap) {
-            int kind = kindOf(heap.words[lastHead]);
-            int slots = slotsOf(heap.words[lastHead]);
+        private void readSlots(Heap heap, int head) {
+            int kind = kindOf(heap.words[head]);
+            int slots = slotsOf(heap.words[head]);
             for (int slot = 0; slot < slots && goesOn(); slot++) {
-                int word = lastHead + 1 + slot;
+                int word = head + 1 + slot;
                 if (kind == DATA) {
                     heap.words[word] = nextWord();
                 } else {
