@@ -317,7 +317,9 @@ public final class HeapImages {
         int append(int kind, int slots) {
             int head = top;
             words[head] = KIND_UNIT * kind + slots;
-            Arrays.fill(words, head + 1, head + 1 + slots, NONE);
+            for (int i = head + 1; i <= head + slots; i++) {
+                words[i] = NONE;
+            }
             if (kind == LINK) {
                 words[head + LINK_SLOTS] = 1;
             }
@@ -468,7 +470,9 @@ public final class HeapImages {
             }
             redirect(base);
             slideToTargets();
-            Arrays.fill(words, end, WORDS, 0);
+            for (int i = end; i < WORDS; i++) {
+                words[i] = 0;
+            }
             int freed = top - end;
             top = end;
             return freed;
@@ -589,7 +593,7 @@ public final class HeapImages {
         private final int[] row = new int[MOST_BYTES];
         private int size;
 
-        /** Leaves a byte out that has no room; the longest image has 1307 bytes. */
+        /** Leaves a byte out that has no room, as none ever is: an image has at most 1307 bytes. */
         void add(int b) {
             if (size < MOST_BYTES) {
                 row[size] = b;

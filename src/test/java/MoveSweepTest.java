@@ -5,6 +5,7 @@ public final class MoveSweepTest {
         moveRefuses();
         sweep();
         sweepKeepsTheOrderOfPlaces();
+        sweepDoesNotFollowData();
         sweepOfAllOrNothing();
         sweepRefuses();
         Due.end();
@@ -118,6 +119,22 @@ public final class MoveSweepTest {
             Due.is("word " + w, x.word(0, w), due[w]);
         }
         Due.is("root", State.rootOf(x, 0, 0), 420);
+    }
+
+    private static void sweepDoesNotFollowData() {
+        HeapImages x = new HeapImages();
+        int gone = x.make(0, HeapImages.CELLS, 2);
+        int data = x.make(0, HeapImages.DATA, 2);
+        x.set(0, data, 0, gone);
+        x.set(0, data, 1, data);
+        x.root(0, 0, data);
+        Due.is("reached", x.told(0, 2), 1);
+        Due.is("sweep", x.sweep(0), 3);
+        int[] due = {130, gone, data, 0};
+        for (int w = 0; w < due.length; w++) {
+            Due.is("word " + w, x.word(0, w), due[w]);
+        }
+        Due.is("root", State.rootOf(x, 0, 0), 4096);
     }
 
     private static void sweepOfAllOrNothing() {

@@ -6,6 +6,7 @@ public final class RestoreTest {
     public static void main(String[] args) {
         good();
         takesTheHeapsPlace();
+        oneAfterTheOther();
         sign();
         bytesLackOrAreLeft();
         counts();
@@ -90,6 +91,25 @@ public final class RestoreTest {
         ImageBytes.begun().counts(0, 5, 0, 0, 0).summed().feedTo(x);
         Due.is("again", x.restore(0, 8), 0);
         Due.isTrue("words then", State.words(x, 0).equals(State.words(new HeapImages(), 0)));
+    }
+
+    private static void oneAfterTheOther() {
+        HeapImages x = new HeapImages();
+        ImageBytes.begun().counts(2, 2, 4, 0, 0).counts(1, 1, 13).counts(2, 1).data(7).summed().feedTo(x);
+        Due.is("into heap 0", x.restore(0, 8), 2);
+        List<Integer> zero = State.ofHeap(x, 0);
+        ImageBytes.begun().counts(2, 2, 0, 0, 0).counts(1, 0).counts(1, 0).summed().feedTo(x);
+        Due.is("object 1 was told before, but not here", x.restore(0, 16), -11);
+        Due.isTrue("heap 0 stays", zero.equals(State.ofHeap(x, 0)));
+        ImageBytes.begun().counts(1, 0, 0, 2, 0).counts(3, 2, 2, 5).summed().feedTo(x);
+        Due.is("into heap 1", x.restore(1, 12), 1);
+        Due.isTrue("heap 0 stays then", zero.equals(State.ofHeap(x, 0)));
+        List<Integer> one = State.ofHeap(x, 1);
+        ImageBytes.begun().counts(0, 4, 0, 0, 0).summed().feedTo(x);
+        Due.is("into heap 0 again", x.restore(0, 16), -5);
+        x.set(0, 8, 0, 15);
+        Due.isTrue("heap 1 stays", one.equals(State.ofHeap(x, 1)));
+        Due.is("heap 0 is set", x.at(0, 8, 0), 15);
     }
 
     private static void sign() {
