@@ -6,15 +6,21 @@ final class Due {
 
     private static int asked = 0;
     private static int wrong = 0;
+    private static String sentence = "";
 
     private Due() {
+    }
+
+    /** What follows tests this sentence of the document; it is told with each wrong answer. */
+    static void sentence(String words) {
+        sentence = "[" + words + "] ";
     }
 
     static void is(String what, long got, long want) {
         asked++;
         if (got != want) {
             wrong++;
-            System.out.println(what + " answered " + got + ", due is " + want);
+            System.out.println(sentence + what + " answered " + got + ", due is " + want);
         }
     }
 
@@ -39,7 +45,7 @@ final class Due {
             got = "threw " + e.getClass().getSimpleName();
         }
         wrong++;
-        System.out.println(what + " " + got + ", due is " + want.getSimpleName());
+        System.out.println(sentence + what + " " + got + ", due is " + want.getSimpleName());
     }
 
     static void noIndex(String what, Call call) {
