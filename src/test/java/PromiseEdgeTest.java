@@ -18,6 +18,8 @@ public final class PromiseEdgeTest {
         pokeMasks();
         wordsAnywhere();
         checkOfValid();
+        theMostObjects();
+        goneObjectsDoNotCount();
         moveCounts();
         moveToTheSameBase();
         sweepKeepsOnlyWhatIsComeTo();
@@ -228,6 +230,44 @@ public final class PromiseEdgeTest {
         Due.is("of the other heap", full.check(1), 0);
         full.root(1, 0, 2);
         Due.is("the other heap's fault is not its own", full.check(0), 0);
+    }
+
+    private static void theMostObjects() {
+        Due.sentence("8, 9, 10, 11, 16, 17: with 256 objects, the most that there may be");
+        HeapImages x = new HeapImages();
+        for (int i = 0; i < 256; i++) {
+            x.make(0, i % 2 == 0 ? DATA : CELLS, 0);
+        }
+        x.root(0, 0, 4096 + 4 * 255);
+        Due.is("check", x.check(0), 0);
+        Due.is("objects", x.told(0, 3), 256);
+        Due.is("come to", x.told(0, 2), 1);
+        Due.is("move", x.move(0, 1000000), 1);
+        Due.is("root", State.rootOf(x, 0, 0), 1001020);
+        Due.is("dump", x.dump(0), 12);
+        Due.is("pass", x.pass(0, 12), 12);
+        Due.is("restore", x.restore(1, 4), 1);
+        Due.isTrue("same", x.same());
+        Due.noIndex("no slot", () -> x.at(0, 1001020, 0));
+        Due.is("sweep", x.sweep(0), 255);
+        Due.is("what stays", x.word(0, 0), 64);
+    }
+
+    private static void goneObjectsDoNotCount() {
+        Due.sentence("8, 9: objects from word 0 to the top (not those that stood behind it once)");
+        HeapImages x = new HeapImages();
+        x.root(0, 0, x.make(0, DATA, 1));
+        x.make(0, CELLS, 1);
+        Due.is("both", x.told(0, 3), 2);
+        Due.is("sweep", x.sweep(0), 2);
+        x.poke(0, 2, 65);
+        x.poke(0, 3, 4096);
+        Due.is("move", x.move(0, 8), 1);
+        Due.is("the word behind stays", x.word(0, 3), 4096);
+        Due.is("its value is no fault", x.check(0), 0);
+        Due.noIndex("it is no object", () -> x.at(0, 16, 0));
+        x.root(0, 1, 16);
+        Due.is("a reference to it is none", x.check(0), 6001);
     }
 
     private static void moveCounts() {
