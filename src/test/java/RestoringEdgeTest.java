@@ -20,6 +20,7 @@ public final class RestoringEdgeTest {
         belowTheirNumber();
         kinds();
         kindOfAnObjectNotTold();
+        kindNotTheWholeOfWhichIsThere();
         slots();
         slotsOfLinks();
         fits();
@@ -223,6 +224,17 @@ public final class RestoringEdgeTest {
         refused("data does not tell", ImageBytes.begun().counts(2, 2, 0, 0, 0).counts(2, 1).data(4).counts(1, 0), 14);
         ends("object 0 tells 1", ImageBytes.begun().counts(2, 2, 0, 0, 0).counts(1, 1, 4, 1, 0).summed(), 2);
         ends("told by the last slot", ImageBytes.begun().counts(2, 0, 0, 0, 2).counts(1, 2, 0, 4, 1, 0).summed(), 2);
+    }
+
+    private static void kindNotTheWholeOfWhichIsThere() {
+        Due.sentence("RESTORING reads an image, byte by byte or count by count [a kind is a count, too]");
+        ImageBytes notTold = ImageBytes.begun().counts(1, 0, 0, 0, 0);
+        refused("nothing of the kind", notTold, 8);
+        refused("its first byte alone", notTold.raw(129), 9);
+        refused("two bytes", notTold.raw(128), 10);
+        refused("the last one is 0", notTold.raw(0), 8);
+        refused("of an object that was told", one().raw(255), 9);
+        refused("its last byte is there, too", one().raw(255, 1), 8);
     }
 
     private static void slots() {
